@@ -1,0 +1,95 @@
+import java.lang.reflect.Constructor;
+import java.lang.reflect.Field;
+import java.lang.reflect.Method;
+import java.lang.reflect.Modifier;
+import java.nio.file.Files;
+import java.nio.file.Path;
+import java.util.HashSet;
+import java.util.List;
+import java.util.Set;
+import java.util.TreeSet;
+import java.util.regex.Matcher;
+import java.util.regex.Pattern;
+
+/** The public face, and those rules of LANGUAGE.md that can be looked for in the source. */
+final class FaceTests {
+    private static final String FACE = "feed 5 end 1 city 0 fault 1 tosses 3 period 1 turn 0 set 4 swap 3 shift 2 keeps 0"
+        + " clash 1 balls 0 lands 2 air 1 ball 4 orbit 3 orbits 0 same 4 crossings 1 suits 1 unsuited 1 wages 2 carries 2"
+        + " letter 2 alone 1 soonest 2 way 2 readers 2 misses 3 missed 4 state 2 change 4 changes 5 rows 3 least 4"
+        + " exchange 4 backwards 0 ground 2 latest 2 busiest 1 silent 1 gusts 3 years 3 judge 2 takes 2 count 1 keep 1"
+        + " back 1 row 3 write 3 paste 5";
+
+    public static void main(String[] args) throws Exception {
+        face();
+        source(Files.readString(Path.of("src/main/java/JuggledPost.java")));
+        Check.close("FaceTests");
+    }
+
+    private static void face() {
+        Set<String> due = new TreeSet<>();
+        String[] parts = FACE.split(" ");
+        for (int i = 0; i < parts.length; i += 2) {
+            boolean isLong = List.of("wages", "rows").contains(parts[i]);
+            due.add((isLong ? "long " : "int ") + parts[i] + " " + parts[i + 1]);
+        }
+        Set<String> got = new TreeSet<>();
+        for (Method m : JuggledPost.class.getDeclaredMethods()) {
+            if (Modifier.isPrivate(m.getModifiers())) {
+                Check.holds("no private method is called " + m.getName(), !FACE.contains(m.getName() + " "));
+                continue;
+            }
+            got.add(m.getReturnType() + " " + m.getName() + " " + m.getParameterCount());
+            for (int i = 0; i < m.getParameterCount(); i++) {
+                boolean isLong = m.getName().equals("write") && i == 2;
+                Check.holds("a parameter of " + m.getName(), m.getParameterTypes()[i] == (isLong ? long.class : int.class));
+            }
+        }
+        Check.holds("the methods are " + due + ", not " + got, due.equals(got));
+        Constructor<?>[] made = JuggledPost.class.getDeclaredConstructors();
+        Check.holds("one public constructor", made.length == 1 && Modifier.isPublic(made[0].getModifiers()));
+        Check.due("NONE", -1, JuggledPost.NONE);
+        Check.holds("public and final", JuggledPost.class.getModifiers() == (Modifier.PUBLIC | Modifier.FINAL));
+        for (Field f : JuggledPost.class.getDeclaredFields()) {
+            Check.holds("field " + f.getName(), Modifier.isPrivate(f.getModifiers()) || f.getName().equals("NONE"));
+        }
+        for (Class<?> c : JuggledPost.class.getDeclaredClasses()) {
+            Check.holds("static " + c, Modifier.isStatic(c.getModifiers()));
+            Check.holds("some twenty fields in " + c, c.getDeclaredFields().length <= 24);
+        }
+        Check.holds("some twelve classes", JuggledPost.class.getDeclaredClasses().length <= 11);
+    }
+
+    private static void source(String text) {
+        String code = text.replaceAll("(?s)/\\*.*?\\*/", "").replaceAll("//[^\n]*", "").replaceAll("\"[^\"]*\"", "\"\"");
+        for (String word : List.of("throw", "try", "catch", "finally", "synchronized", "assert", "package", "protected",
+                "double", "float", "hashCode", "toString", "Exact", "->", "::")) {
+            Pattern p = word.matches("\\w+") ? Pattern.compile("\\b" + word + "\\b") : Pattern.compile(word);
+            Check.holds("no " + word, !p.matcher(code).find());
+        }
+        Set<String> imports = new HashSet<>();
+        Matcher m = Pattern.compile("import ([^;]*);").matcher(code);
+        while (m.find()) {
+            imports.add(m.group(1));
+        }
+        Check.holds("imports " + imports, List.of("java.util.Arrays").containsAll(imports));
+        // what a run makes is kept small: all is made with the object
+        for (String line : code.split("\n")) {
+            boolean made = line.contains("final ") || line.contains("images[k] = ");
+            Check.holds("made with the object: " + line, !line.matches(".*\\bnew\\b.*") || made);
+        }
+        methodsAreShort(text);
+    }
+
+    private static void methodsAreShort(String text) {
+        int since = 0;
+        String[] lines = text.split("\n");
+        for (int i = 0; i < lines.length; i++) {
+            if (lines[i].matches(" {4,8}\\w.*\\) \\{")) {
+                since = i;
+            }
+            if (lines[i].matches(" {4,8}}")) {
+                Check.holds("short: " + lines[since], i - since <= 60 || lines[since].contains("class"));
+            }
+        }
+    }
+}
