@@ -512,16 +512,14 @@ public final class JuggledPost {
         if (!isRowKind(p, b, top)) {
             return NO_SUCH;
         }
-        tally.fill(p, b, top);
-        return tally.waysOn(0, b);
+        return tally.waysOf(p, b, top);
     }
 
     public int least(int p, int b, int top, int n) {
         if (!isRowKind(p, b, top) || n < 0 || n >= p) {
             return NO_SUCH;
         }
-        tally.fill(p, b, top);
-        return tally.waysOn(0, b) == 0 ? NONE : tally.heightOfLeast(p, b, top, n);
+        return tally.waysOf(p, b, top) == 0 ? NONE : tally.heightOfLeast(p, b, top, n);
     }
 
     private static boolean isRowKind(int p, int b, int top) {
@@ -630,23 +628,29 @@ public final class JuggledPost {
     }
 
     public int keep(int k) {
-        if (k < 0 || k >= IMAGES) {
+        City image = imageAt(k);
+        if (image == null) {
             return NO_SUCH;
         }
-        images[k].copyOf(town);
+        image.copyOf(town);
         kept[k] = true;
         return 0;
     }
 
     public int back(int k) {
-        if (k < 0 || k >= IMAGES) {
+        City image = imageAt(k);
+        if (image == null) {
             return NO_SUCH;
         }
         if (!kept[k]) {
             return HAS_NOTHING;
         }
-        town.copyOf(images[k]);
+        town.copyOf(image);
         return 0;
+    }
+
+    private City imageAt(int k) {
+        return k >= 0 && k < IMAGES ? images[k] : null;
     }
 
     public int row(int slot, int width, int n) {
@@ -1638,59 +1642,82 @@ public final class JuggledPost {
 
     /** How many rows there are that can be kept up alone. */
     private static final class Tally {
-        private static final int LEFT_OVER = TOP + 1;
+        private static final int SIZES = TOP + 1;
 
+        private int period;
+        private int highest;
         /** Of each set of beats (as bits) at which something comes down, and number of balls still to come. */
-        private final int[] ways = new int[(1 << MOST_THROWS) * LEFT_OVER];
+        private final int[] ways = new int[(1 << MOST_THROWS) * SIZES];
 
-        void fill(int p, int balls, int top) {
-            int all = (1 << p) - 1;
-            for (int taken = all; taken >= 0; taken--) {
-                for (int left = 0; left <= balls; left++) {
-                    int end = left == 0 ? 1 : 0;
-                    ways[taken * LEFT_OVER + left] = taken == all ? end : waysFrom(taken, left, p, top);
-                }
-            }
+        int waysOf(int p, int balls, int top) {
+            fill(p, top);
+            return waysOn(0, balls);
         }
 
-        private int waysFrom(int taken, int left, int p, int top) {
-            int number = 0;
-            for (int height = 0; height <= top; height++) {
-                number += waysBehind(taken, left, p, height);
+        private void fill(int p, int top) {
+            if (p == period && top == highest) {
+                return;
             }
-            return number;
+            period = p;
+            highest = top;
+            Arrays.fill(ways, 0);
+            int all = (1 << p) - 1;
+            ways[all * SIZES] = 1;
+            for (int taken = all - 1; taken >= 0; taken--) {
+                for (int height = 0; height <= top; height++) {
+                    addWays(taken, height);
+                }
+            }
         }
 
         /** The throw that is next is the one behind as many as beats are taken. */
-        private int waysBehind(int taken, int left, int p, int height) {
+        private void addWays(int taken, int height) {
             int down = Integer.bitCount(taken) + height;
-            int bit = p < 1 ? 0 : 1 << down % p;
-            return (taken & bit) != 0 ? 0 : waysOn(taken | bit, left - turnsOf(down, p));
+            int after = taken | bitOf(down);
+            if (after == taken) {
+                return;
+            }
+            int turns = turnsOf(down);
+            for (int left = turns; left < SIZES; left++) {
+                ways[taken * SIZES + left] += ways[after * SIZES + left - turns];
+            }
+        }
+
+        private int bitOf(int down) {
+            return period < 1 ? 0 : 1 << down % period;
         }
 
         // a row's balls are the turns of it that its throws go over, all together
-        private static int turnsOf(int down, int p) {
-            return p < 1 ? 0 : down / p;
+        private int turnsOf(int down) {
+            return period < 1 ? 0 : down / period;
         }
 
-        int waysOn(int taken, int left) {
-            int place = taken * LEFT_OVER + left;
-            return left < 0 || left > TOP || place < 0 || place >= ways.length ? 0 : ways[place];
+        private int waysOn(int taken, int left) {
+            int place = taken * SIZES + left;
+            return left < 0 || left >= SIZES || place < 0 || place >= ways.length ? 0 : ways[place];
         }
 
         int heightOfLeast(int p, int balls, int top, int n) {
+            fill(p, top);
             int taken = 0;
             int left = balls;
             int height = 0;
-            for (int i = 0; i <= n && i < p; i++) {
-                height = 0;
-                while (height < top && waysBehind(taken, left, p, height) == 0) {
-                    height++;
-                }
-                taken |= 1 << (i + height) % p;
-                left -= turnsOf(i + height, p);
+            for (int i = 0; i <= n; i++) {
+                height = leastHeight(taken, left, i);
+                taken |= bitOf(i + height);
+                left -= turnsOf(i + height);
             }
             return height;
+        }
+
+        private int leastHeight(int taken, int left, int i) {
+            for (int height = 0; height < highest; height++) {
+                int after = taken | bitOf(i + height);
+                if (after != taken && waysOn(after, left - turnsOf(i + height)) > 0) {
+                    return height;
+                }
+            }
+            return highest;
         }
     }
 
@@ -1792,7 +1819,9 @@ public final class JuggledPost {
             if (isSlot(slot) && n >= 0 && n <= MOST) {
                 widths[slot] = width;
                 sizes[slot] = n;
-                Arrays.fill(numbers, slot * MOST, slot * MOST + n, 0L);
+                for (int i = 0; i < n; i++) {
+                    numbers[slot * MOST + i] = 0;
+                }
             }
         }
 

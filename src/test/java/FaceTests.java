@@ -28,6 +28,7 @@ final class FaceTests {
     private static void face() {
         Set<String> due = new TreeSet<>();
         String[] parts = FACE.split(" ");
+        List<String> names = List.of(parts);
         for (int i = 0; i < parts.length; i += 2) {
             boolean isLong = List.of("wages", "rows").contains(parts[i]);
             due.add((isLong ? "long " : "int ") + parts[i] + " " + parts[i + 1]);
@@ -35,7 +36,7 @@ final class FaceTests {
         Set<String> got = new TreeSet<>();
         for (Method m : JuggledPost.class.getDeclaredMethods()) {
             if (Modifier.isPrivate(m.getModifiers())) {
-                Check.holds("no private method is called " + m.getName(), !FACE.contains(m.getName() + " "));
+                Check.holds("no private method is called " + m.getName(), !names.contains(m.getName()));
                 continue;
             }
             got.add(m.getReturnType() + " " + m.getName() + " " + m.getParameterCount());
@@ -55,6 +56,10 @@ final class FaceTests {
         for (Class<?> c : JuggledPost.class.getDeclaredClasses()) {
             Check.holds("static " + c, Modifier.isStatic(c.getModifiers()));
             Check.holds("some twenty fields in " + c, c.getDeclaredFields().length <= 24);
+            for (Method m : c.getDeclaredMethods()) {
+                Check.holds("no method inside is called " + m.getName(), !names.contains(m.getName()));
+                Check.holds("at most seven parameters " + m.getName(), m.getParameterCount() <= 7);
+            }
         }
         Check.holds("some twelve classes", JuggledPost.class.getDeclaredClasses().length <= 11);
     }

@@ -231,6 +231,7 @@ final class ModelTests {
             years += m.gusts((long) seed + y, n)[1] >= 0 ? 1 : 0;
         }
         Check.due("years " + text, years, x.years(seed, k, n));
+        Check.due("gusts again " + text, m.gusts(seed / 2, n / 2)[0], x.gusts(seed / 2, n / 2, 0));
     }
 
     private static void backwards(Model m, String text, JuggledPost x) {

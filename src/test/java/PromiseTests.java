@@ -106,6 +106,15 @@ final class PromiseTests {
         Check.due("eight throws, six crosses, eight letters", 16, Check.tell(x, "roofs 2;throws 0 1 1 1 1 1 1 1 1;"
             + "cross 0 1;cross 0 1;cross 0 1;cross 1 0;cross 1 0;cross 0 1;" + "letter 0 at 9999 to 1;".repeat(8)));
         Check.due("letters", 8, x.count(1));
+        Check.due("six crosses anew", 8, Check.tell(x, "roofs 2;" + "cross 0 1;".repeat(6) + "gusts from 1 odds 1;"));
+        Check.due("no letter of before", 0, x.count(1));
+        Check.due("gusts anew", 3, Check.tell(x, "roofs 2;thrower 0 left;gusts from 1 odds 1;"));
+        Check.due("no pair of before", 0, x.count(2));
+        Check.due("no throws of before", 0, x.count(7));
+        Check.due("nothing of before", 1, Check.tell(x, "roofs 2;"));
+        Check.due("no kind of before", 0, x.tosses(0, 0, 2));
+        Check.due("no gusts of before", 9, x.count(5));
+        Check.due("no odds of before", 0, x.count(6));
         Check.due("no line", 0, Check.tell(x, " \n "));
         Check.due("there is none then", -2, x.turn());
         Check.due("count", 0, x.count(5));
@@ -372,6 +381,9 @@ final class PromiseTests {
         Check.due("earlier", 0, x.same(1, 3, 0, 0));
         Check.due("no other", -2, x.same(0, 0, 2, 0));
         Check.due("no later", -2, x.same(0, 0, 0, 100_000));
+        Check.due("no later", -2, x.same(0, 0, 0, -1));
+        Check.due("no beat", -2, x.same(0, 100_000, 0, 0));
+        Check.due("no roof", -2, x.same(2, 0, 0, 0));
         x = Check.told(ALONE);
         Check.due("orbits", 5, x.orbits());
         Check.due("throws", 2, x.orbit(0, 0, 0));
@@ -589,6 +601,10 @@ final class PromiseTests {
         Check.due("too many", -2, x.missed(0, 0, 1, 10_001));
         Check.due("below", -2, x.missed(0, 0, 1, -1));
         Check.due("no roof", -2, x.missed(2, 0, 1, 1));
+        Check.due("no other", -2, x.missed(0, 0, -1, 1));
+        Check.due("no beat", -2, x.missed(0, 100_000, 1, 1));
+        Check.due("no beat", -2, x.missed(0, -1, 1, 1));
+        Check.due("no roof", -2, x.misses(-1, 0, 1));
         x = Check.told(ALONE);
         Check.due("never", -1, x.misses(0, 0, 1));
         Check.due("no time", 0, x.missed(0, 0, 1, 100));
@@ -707,7 +723,11 @@ final class PromiseTests {
         Check.due("keeps", 1, x.keeps());
         Check.due("nothing backwards", 1, Check.told("roofs 2;").backwards());
         x = Check.told("roofs 1;throws 0 0 2;");
+        x.keep(0);
+        Check.tell(x, "roofs 2;throws 0 3;throws 1 9;");
+        x.back(0);
         Check.due("backwards", 2, x.backwards());
+        Check.due("its own roofs", 1, x.count(0));
         Check.due("nothing comes down", 0, x.tosses(0, 0, 0));
         Check.due("2", 2, x.tosses(0, 1, 0));
     }
@@ -794,7 +814,8 @@ final class PromiseTests {
         Check.due("cut to a byte", 0, x.write(1, 0, 256 * 7 + 30));
         Check.due("cut", 1, x.judge(1, 0));
         x.row(1, 1, 1);
-        Check.due("all 0", 1, x.judge(1, 0));
+        Check.due("all 0", 1, x.takes(1, 0));
+        Check.due("all 0", 0, x.tosses(0, 0, 0));
         x.write(1, 0, 256 + 30);
         Check.due("not cut to a byte", -2, x.judge(1, 0));
         x.write(1, 0, 65536L * 3 + 30);
