@@ -74,11 +74,10 @@ public final class JuggledPost {
     }
 
     public int city() {
-        boolean read = scribe.readAll();
-        scribe.length = 0;
-        if (!read) {
+        if (!scribe.readAll()) {
             return FAULTY;
         }
+        scribe.length = 0;
         town.copyOf(draft);
         return town.lines;
     }

@@ -88,8 +88,12 @@ final class PromiseTests {
         Check.due("period without throws", 1, x.period(5));
         Check.due("height without throws", 0, x.tosses(5, 7, 0));
         Check.due("goal without throws", 5, x.tosses(5, 7, 1));
-        Check.due("a fault", -4, Check.tell(x, "roofs 7;"));
+        Check.due("a fault", -4, Check.tell(x, "roofs 2;;"));
         Check.due("the city stays", 6, x.count(0));
+        Check.due("the tape stays", 9, x.count(4));
+        Check.due("cut ahead of the fault", 8, x.end(8));
+        Check.due("city", 1, x.city());
+        Check.due("its roofs", 2, x.count(0));
         Check.due("the tape is empty then", 0, x.count(4));
         Check.due("the longest tokens", 3, Check.tell(x, "roofs2;throws0 3to1 00004;\n gusts from9odds0100;"));
         Check.due("3 to 1", 3, x.tosses(0, 0, 0));
@@ -130,6 +134,10 @@ final class PromiseTests {
         Check.due("no such what", -1, x.fault(-1));
         Check.due("all stays", 3, x.count(0));
         Check.due("all stays", 3, x.tosses(0, 0, 0));
+        Check.due("all stays", text.length(), x.count(4));
+        Check.due("the same again", -4, x.city());
+        Check.due("the same place", place, x.fault(1));
+        x.end(0);
         Check.due("the next city", 1, Check.tell(x, "roofs 1;"));
         Check.due("its fault", 0, x.fault(0));
         Check.due("its place", -1, x.fault(1));
