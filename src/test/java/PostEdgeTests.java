@@ -283,6 +283,8 @@ final class PostEdgeTests {
         x.set(0, 7, 3, 0);
         Check.due("none does", 7, x.state(0, 7));
         Check.due("no balls", 0, Check.told("roofs 1;").state(0, 0));
+        Check.due("the first and the third come down at once", -1, Check.told("roofs 1;throws 0 2 2 0;").state(0, 0));
+        Check.due("the first and the last come down at once", -1, Check.told("roofs 1;throws 0 7 1 1 1 1 1 1 8;").state(0, 0));
     }
 
     // VI: bits 0 to 8, of throws up to nine BEATS ahead, round rows of any length
@@ -355,6 +357,8 @@ final class PostEdgeTests {
         change(x, 1, 0, 0, 1, 8);
         change(x, 1, 0, 1, 0);
         change(x, 2, 0, 2, 0);
+        change(x, 3, 0, 3, 1, 9);
+        change(x, 3, 2, 3, 1, 0, 9);
         // 5 and 7, or 8 and 4: the least row of HEIGHTS
         change(x, 4, 0, 3, 0, 5, 7);
         change(x, 4, 0, 5, 1, 4, 5);
@@ -394,7 +398,9 @@ final class PostEdgeTests {
         for (int p = 1; p <= 4; p++) {
             for (int b = 0; b <= 9; b++) {
                 for (int top = 0; top <= 9; top++) {
-                    Check.due("rows " + p + " " + b + " " + top, countRows(p, b, top), new JuggledPost().rows(p, b, top));
+                    int number = countRows(p, b, top);
+                    Check.due("rows " + p + " " + b + " " + top, number, new JuggledPost().rows(p, b, top));
+                    least(p, b, top, number == 0 ? new int[] {-1} : leastRow(p, b, top));
                 }
             }
         }
@@ -411,12 +417,30 @@ final class PostEdgeTests {
         }
         int number = 0;
         for (int height = 0; height <= top && height <= left; height++) {
-            int bit = 1 << (i + height) % p;
+            int bit = bitOf(p, i, height);
             if ((met & bit) == 0) {
                 number += countFrom(p, left - height, top, i + 1, met | bit);
             }
         }
         return number;
+    }
+
+    private static int[] leastRow(int p, int b, int top) {
+        int[] row = new int[p];
+        int left = p * b;
+        int met = 0;
+        for (int i = 0; i < p; i++) {
+            while ((met & bitOf(p, i, row[i])) != 0 || countFrom(p, left - row[i], top, i + 1, met | bitOf(p, i, row[i])) == 0) {
+                row[i]++;
+            }
+            left -= row[i];
+            met |= bitOf(p, i, row[i]);
+        }
+        return row;
+    }
+
+    private static int bitOf(int p, int i, int height) {
+        return 1 << (i + height) % p;
     }
 
     private static void least(int p, int b, int top, int... due) {

@@ -317,6 +317,13 @@ final class RowEdgeTests {
         Check.due("something does", 20, x.lands(0, 1));
         Check.due("nothing does", -1, x.lands(0, 99_998));
         Check.due("nothing ever does", -1, x.lands(1, 99_999));
+        // to whom it goes is told by the throw that comes down, not by another of the row
+        x = Check.told("roofs 2;throws 0 1 to 1 2 3;throws 1 2 3 to 0 1;");
+        Check.due("keeps", 1, x.keeps());
+        int[] due = {20, 11, 31, 10, 30, 21};
+        for (int i = 0; i < 6; i++) {
+            Check.due("lands", due[i], x.lands(i % 2, i / 2));
+        }
     }
 
     // promise 17
@@ -413,6 +420,10 @@ final class RowEdgeTests {
         Check.due("at the last beat", 55, x.crossings(1));
         Check.due("the lesser", 4, x.crossings(2));
         Check.due("the greater", 5, x.crossings(3));
+        x = Check.told("roofs 6;throws 2 1 1 1 to 5;throws 5 1 1 1 1 1 1 1 1 to 2;cross 5 2;");
+        Check.due("at the last beat", 23, x.crossings(1));
+        Check.due("the lesser", 2, x.crossings(2));
+        Check.due("the greater", 5, x.crossings(3));
     }
 
     // IV, promises 22, 23
@@ -455,6 +466,7 @@ final class RowEdgeTests {
         }
         Check.due("slow by the left hand", 1, Check.told("roofs 2;thrower 0 slow;throws 0 5 to 1;").unsuited(0));
         Check.due("learner by the left hand", 1, Check.told("roofs 2;thrower 0 learner;throws 0 5 to 1;").unsuited(0));
+        Check.due("learner, the first is the least", 1, Check.told("roofs 2;thrower 0 learner;throws 0 1 2;").unsuited(0));
         Check.due("learner of nothing", 1, Check.told("roofs 2;thrower 0 learner;throws 0 0 0;").suits(0));
         Check.due("learner, the first is other", 1, Check.told("roofs 2;thrower 0 learner;throws 0 3 4 4;").unsuited(0));
         Check.due("plain above 5", 1, Check.told("roofs 2;throws 0 9 1;").suits(0));

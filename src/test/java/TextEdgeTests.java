@@ -19,6 +19,7 @@ final class TextEdgeTests {
         signsAreTokens();
         tokensAreTheLongest();
         numbersDoNotWrap();
+        wordsAreWhole();
         linesAreWhole();
         theEndIsAPlace();
         theFirstFaultIsTold();
@@ -309,6 +310,10 @@ final class TextEdgeTests {
         Check.due("a word behind a number", 1, x.tosses(0, 0, 1));
         Check.due("a number behind a word", 100, x.count(6));
         faulty(1, "roofs 2;throws 0 3 ^tto 1;");
+        for (char c : new char[] {'a', 'm', 'z'}) {
+            faulty(1, "^roofs" + c + " 2;");
+            faulty(1, "^" + c + "roofs 2;");
+        }
         faulty(1, "roofs 2;^throwsthrows 0 3;");
         faulty(1, "roofs 2;^thro ws 0 3;");
         faulty(2, "roofs 2;cross ^10 1;");
@@ -332,6 +337,28 @@ final class TextEdgeTests {
         Check.due("zeros ahead", 6, taken(1, "roofs " + "0".repeat(1500) + "6;").count(0));
         faulty(2, "roofs ^" + "0".repeat(1500) + "7;");
         faulty(2, "roofs ^" + "9".repeat(1500) + ";");
+    }
+
+    // I: a word with one letter changed, wherever that is, can't stand there
+    private static void wordsAreWhole() {
+        String[] texts = {"@roofs@ 2;", "roofs 2;@thrower@ 0 left;", "roofs 2;@throws@ 0 3;", "roofs 2;throws 0 3 @to@ 1;",
+            "roofs 2;@cross@ 0 1;", "roofs 2;@letter@ 0 at 0 to 1;", "roofs 2;letter 0 @at@ 0 to 1;", "roofs 2;letter 0 at 0 @to@ 1;",
+            "roofs 2;@gusts@ from 9 odds 0;", "roofs 2;gusts @from@ 9 odds 0;", "roofs 2;gusts from 9 @odds@ 0;",
+            "roofs 2;thrower 0 @plain@;", "roofs 2;thrower 0 @left@;", "roofs 2;thrower 0 @slow@;", "roofs 2;thrower 0 @blind@;",
+            "roofs 2;thrower 0 @learner@;"};
+        for (String text : texts) {
+            int from = text.indexOf('@');
+            int to = text.indexOf('@', from + 1) - 1;
+            String whole = text.replace("@", "");
+            taken((int) whole.chars().filter(c -> c == ';').count(), whole);
+            for (int i = from; i < to; i++) {
+                String head = whole.substring(0, from) + "^" + whole.substring(from, i);
+                faulty(1, head + (whole.charAt(i) == 'x' ? 'y' : 'x') + whole.substring(i + 1));
+                faulty(1, head + (char) (whole.charAt(i) + 1) + whole.substring(i + 1));
+            }
+            faulty(1, whole.substring(0, from) + "^" + whole.substring(from, to - 1) + whole.substring(to));
+            faulty(1, whole.substring(0, from) + "^" + whole.substring(from, to) + "s" + whole.substring(to));
+        }
     }
 
     // I: each LINE has its words and its end
