@@ -173,6 +173,10 @@ final class PostEdgeTests {
         Check.due("then by roof 1", 21, x.way(0, 1));
         x = Check.told("roofs 3;throws 0 1 to 1 0 0 0;throws 1 0 3 to 2 2 to 2 1 to 2;letter 0 at 0 to 2;");
         Check.due("the second at the least beat", 11, x.way(0, 1));
+        JuggledPost six = Check.told("roofs 6;throws 3 1 to 0 0;throws 0 0 1 to 5;letter 3 at 0 to 5;");
+        Check.due("of six by way of the first", 3, six.way(0, 0));
+        Check.due("to the last", 10, six.way(0, 1));
+        Check.due("two throws", 2, six.soonest(0, 1));
         Check.due("no wait", 0, x.soonest(0, 2));
     }
 

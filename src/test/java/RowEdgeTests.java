@@ -14,6 +14,7 @@ final class RowEdgeTests {
         ballsComeDown();
         ballsAreFollowed();
         orbitsAreClosed();
+        theLongestOrbitIsClosed();
         ballsAreTheSame();
         pairsCross();
         handsSuit();
@@ -371,6 +372,39 @@ final class RowEdgeTests {
         Check.due("one throw", 1, one.orbit(0, 0, 0));
         Check.due("nine heights", 9, one.orbit(0, 99_999, 1));
         Check.due("nine balls", 9, one.orbit(0, 0, 2));
+    }
+
+    // II, III: all throws of the greatest ROUND in one ORBIT: once round the six ROOFS takes 11 BEATS, 11 and 840 share nothing
+    private static void theLongestOrbitIsClosed() {
+        JuggledPost x = Check.told("roofs 6;throws 0" + " 1 to 1".repeat(8) + ";throws 1" + " 1 to 2".repeat(7) + ";throws 2"
+            + " 1 to 3".repeat(5) + ";throws 3" + " 1 to 4".repeat(3) + ";throws 4 1 to 5;throws 5 6 to 0;letter 0 at 9999 to 5;");
+        Check.due("turn", 840, x.turn());
+        Check.due("balls", 11, x.balls());
+        Check.due("one orbit", 1, x.orbits());
+        Check.due("of all throws", 5040, x.orbit(0, 0, 0));
+        Check.due("of all throws", 5040, x.orbit(5, 99_999, 0));
+        Check.due("of all heights", 11 * 840, x.orbit(3, 839, 1));
+        Check.due("of all balls", 11, x.orbit(3, 840, 2));
+        Check.due("of all roofs", 63, x.orbit(4, 1, 3));
+        Check.due("once round", 1, x.same(0, 0, 0, 11));
+        Check.due("not a beat sooner", 0, x.same(0, 0, 0, 10));
+        Check.due("to that throw again", 1, x.same(0, 0, 0, 9240));
+        Check.due("many times round", 1, x.same(0, 0, 5, 99_995));
+        Check.due("behind two hundred throws", 11 * 33 + 2, x.ball(0, 0, 200, 1));
+        Check.due("alone", 10_004, x.alone(0));
+        Check.due("carries", 840, x.carries(5, 0));
+        // all six ROOFS with an ORBIT of their own for each ball
+        x = Check.told("roofs 6;throws 0" + " 1".repeat(8) + ";throws 1" + " 1".repeat(7) + ";throws 2" + " 1".repeat(5)
+            + ";throws 3" + " 1".repeat(3) + ";throws 4 9;throws 5 9;");
+        Check.due("turn", 840, x.turn());
+        Check.due("of a 9 three, for 9 and 840 share 3", 4 + 3 + 3, x.orbits());
+        // of a ROUND of one BEAT
+        x = Check.told("roofs 6;throws 0 1 to 1;throws 1 1 to 0;throws 2 1;throws 3 2 to 4;throws 4 3 to 5;throws 5 1 to 3;");
+        Check.due("turn", 1, x.turn());
+        Check.due("orbits", 3, x.orbits());
+        Check.due("of one throw", 1, x.orbit(2, 0, 1));
+        Check.due("the same at each beat", 1, x.same(2, 0, 2, 99_999));
+        Check.due("the same at each beat", 1, x.same(2, 4, 2, 5));
     }
 
     // promise 20
