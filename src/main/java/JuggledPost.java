@@ -262,7 +262,7 @@ public final class JuggledPost {
         if (what == 1) {
             return flight.orbitHeights;
         }
-        return what == 2 ? flight.orbitHeights / flight.roundOf(town) : flight.orbitRoofs;
+        return what == 2 ? flight.orbitBalls : flight.orbitRoofs;
     }
 
     public int orbits() {
@@ -793,7 +793,8 @@ public final class JuggledPost {
         }
 
         void put(int roof, int i, int height, int goal) {
-            if (hasThrow(roof, i)) {
+            // goals are used as indices later on
+            if (hasThrow(roof, i) && hasRoof(goal) && isWithin(height, TOP)) {
                 heights[roof * MOST_THROWS + i] = height;
                 goals[roof * MOST_THROWS + i] = goal;
                 looked = false;
@@ -807,6 +808,12 @@ public final class JuggledPost {
             }
         }
 
+        void employ(int roof, int kind) {
+            if (hasRoof(roof)) {
+                kinds[roof] = kind;
+            }
+        }
+
         void forbid(int roof, int other) {
             if (hasRoof(roof) && hasRoof(other)) {
                 rivals[roof] |= 1 << other;
@@ -815,7 +822,7 @@ public final class JuggledPost {
         }
 
         void post(int roof, int beat, int goal) {
-            if (letters < MOST_LETTERS) {
+            if (letters < MOST_LETTERS && hasRoof(roof) && hasRoof(goal)) {
                 posts[3 * letters] = roof;
                 posts[3 * letters + 1] = beat;
                 posts[3 * letters + 2] = goal;
@@ -990,7 +997,7 @@ public final class JuggledPost {
             if (kind == NONE) {
                 return fail(1);
             }
-            draft.kinds[taken] = kind;
+            draft.employ(taken, kind);
             advance();
             return true;
         }
@@ -1207,6 +1214,7 @@ public final class JuggledPost {
         int beat;
         int orbitThrows;
         int orbitHeights;
+        int orbitBalls;
         int orbitRoofs;
         private final int[] coming = new int[MOST_ROOFS * AHEAD];
         private final int[] met = new int[MOST_STEPS / 32 + 1];
@@ -1341,6 +1349,7 @@ public final class JuggledPost {
                 }
             }
             orbitHeights = beat - fromBeat;
+            orbitBalls = c.round < 1 ? 0 : orbitHeights / c.round;
         }
 
         int orbitsOf(City c) {
@@ -1436,7 +1445,8 @@ public final class JuggledPost {
     private static final class Mail {
         /** A way needs five throws at most, each within eight beats and up to nine high: 80 beats. */
         private static final int SPAN = 96;
-        private static final int NEVER = Integer.MAX_VALUE;
+        /** Above every beat. */
+        private static final int NEVER = 1_000_000_000;
         /** More throws than any way has. */
         private static final int FAR = 99;
 
@@ -1722,6 +1732,9 @@ public final class JuggledPost {
 
     /** Gusts by draws. */
     private static final class Storm {
+        /** What a number modulo 2,147,483,648 keeps of its bits. */
+        private static final int LOW_BITS = 0x7fffffff;
+
         int drops;
         int dropBeat;
         int dropRoof;
@@ -1777,7 +1790,7 @@ public final class JuggledPost {
         }
 
         private int draw() {
-            x = 1103515245 * x + 12345 & Integer.MAX_VALUE;
+            x = 1103515245 * x + 12345 & LOW_BITS;
             return x / 65536 % 100;
         }
     }

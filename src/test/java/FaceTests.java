@@ -6,7 +6,9 @@ import java.nio.file.Files;
 import java.nio.file.Path;
 import java.util.HashSet;
 import java.util.List;
+import java.util.Map;
 import java.util.Set;
+import java.util.TreeMap;
 import java.util.TreeSet;
 import java.util.regex.Matcher;
 import java.util.regex.Pattern;
@@ -18,6 +20,10 @@ final class FaceTests {
         + " letter 2 alone 1 soonest 2 way 2 readers 2 misses 3 missed 4 state 2 change 4 changes 5 rows 3 least 4"
         + " exchange 4 backwards 0 ground 2 latest 2 busiest 1 silent 1 gusts 3 years 3 judge 2 takes 2 count 1 keep 1"
         + " back 1 row 3 write 3 paste 5";
+
+    /** What the program uses of what LANGUAGE.md lists. */
+    private static final List<String> LIBRARY = List.of("Integer.bitCount", "Math.min", "Math.max", "Math.floorMod",
+        "Arrays.fill", "System.arraycopy", "String.length", "String.charAt");
 
     public static void main(String[] args) throws Exception {
         face();
@@ -83,6 +89,58 @@ final class FaceTests {
             Check.holds("made with the object: " + line, !line.matches(".*\\bnew\\b.*") || made);
         }
         methodsAreShort(text);
+        libraryIsListed(code);
+        Map<String, String> bodies = bodies(code);
+        for (String name : bodies.keySet()) {
+            divisorsAreLookedAt(name, bodies.get(name));
+            Check.holds(name + " goes at most eight calls deep", depth(name, bodies, 0) <= 8);
+        }
+    }
+
+    /** Constants of the library, too, are none that LANGUAGE.md lists. */
+    private static void libraryIsListed(String code) {
+        Matcher m = Pattern.compile("\\b(Integer|Long|Math|Arrays|System|String|Character|Byte|Short)\\.(\\w+)").matcher(code);
+        while (m.find()) {
+            Check.holds(m.group() + " is listed", LIBRARY.contains(m.group()));
+        }
+    }
+
+    /** Of each method, whose names are all unlike, the lines behind its head. */
+    private static Map<String, String> bodies(String code) {
+        Map<String, String> found = new TreeMap<>();
+        Matcher m = Pattern.compile("(?ms)^( {4}| {8})(?:(?:public|private|static) )*[\\w\\[\\]]+ (\\w+)\\([^)]*\\) \\{$(.*?)^\\1\\}$")
+            .matcher(code);
+        while (m.find()) {
+            Check.holds("one method alone is called " + m.group(2), found.put(m.group(2), m.group(3)) == null);
+        }
+        Check.holds("methods were found: " + found.size(), found.size() > 150);
+        return found;
+    }
+
+    /** A divisor is a number, a constant, or something that is compared in the same method. */
+    private static void divisorsAreLookedAt(String name, String body) {
+        Matcher m = Pattern.compile("[/%] ([\\w.]+\\(?)").matcher(body);
+        while (m.find()) {
+            String divisor = m.group(1);
+            String compared = "(?s).*(\\b" + Pattern.quote(divisor) + " [<>] [01]\\b|i < " + Pattern.quote(divisor) + ";).*";
+            boolean fixed = divisor.matches("[1-9][0-9]*|[A-Z_]+");
+            Check.holds("the divisor " + divisor + " is looked at in " + name, fixed || body.matches(compared));
+        }
+    }
+
+    /** The method itself counts; nothing calls itself, so a chain that doesn't end is told as a deep one. */
+    private static int depth(String name, Map<String, String> bodies, int above) {
+        int deepest = 0;
+        if (above > 20) {
+            return 1;
+        }
+        Matcher m = Pattern.compile("([A-Z]\\w*\\.)?\\b(\\w+)\\(").matcher(bodies.get(name));
+        while (m.find()) {
+            boolean own = m.group(1) == null && bodies.containsKey(m.group(2));
+            boolean library = LIBRARY.stream().anyMatch(listed -> listed.endsWith("." + m.group(2)));
+            deepest = Math.max(deepest, own ? depth(m.group(2), bodies, above + 1) : library ? 1 : 0);
+        }
+        return deepest + 1;
     }
 
     private static void methodsAreShort(String text) {

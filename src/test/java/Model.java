@@ -37,6 +37,9 @@ final class Model {
         }
         if (!mixed && dice.nextInt(5) > 0) {
             m.makeKept(dice, length);
+            if (dice.nextInt(3) == 0) {
+                m.tellRowsOver(dice);
+            }
         } else if (mixed && dice.nextInt(4) > 0) {
             m.makeKeptAlone(dice);
         }
@@ -83,6 +86,16 @@ final class Model {
             if (fits && (r != s || i != j)) {
                 rows.get(r).set(i, new int[] {ha, b[1]});
                 rows.get(s).set(j, new int[] {hb, a[1]});
+            }
+        }
+    }
+
+    /** Rows told several times over: the same throws by rows of unlike lengths, in a longer ROUND. */
+    private void tellRowsOver(Random dice) {
+        for (List<int[]> row : rows) {
+            List<int[]> once = new ArrayList<>(row);
+            for (int times = dice.nextInt(4); times > 0 && row.size() + once.size() <= 8; times--) {
+                row.addAll(once);
             }
         }
     }
