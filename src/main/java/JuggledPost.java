@@ -299,7 +299,7 @@ public final class JuggledPost {
         if (!town.hasRoof(roof) || !isBeat(beat) || !town.hasRoof(other) || !isWithin(n, MOST_BEATS)) {
             return NO_SUCH;
         }
-        if (!flight.isThrownFrom(town, roof, beat)) {
+        if (!flight.isThrownFrom(town, roof, beat) || flight.firstDown(town, roof, beat, other) == NONE) {
             return NONE;
         }
         return flight.timesDown(town, roof, beat, other, n);

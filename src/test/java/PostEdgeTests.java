@@ -248,9 +248,9 @@ final class PostEdgeTests {
 
     // promise 32
     private static void missesAreCounted() {
-        Stage.bounds("missed of a roof", 0, 5, -2, Stage.at(0, 1), (x, v) -> x.missed(v, 0, 4, 1));
+        Stage.bounds("missed of a roof", 0, 5, -2, Stage.at(-1, 1), (x, v) -> x.missed(v, 0, 4, 1));
         Stage.bounds("missed at a beat", 0, 99_999, -2, Stage.at(1, 1), (x, v) -> x.missed(3, v, 3, 9));
-        Stage.bounds("missed by another", 0, 5, -2, Stage.at(0, 1), (x, v) -> x.missed(4, 0, v, 1));
+        Stage.bounds("missed by another", 0, 5, -2, Stage.at(-1, 1), (x, v) -> x.missed(4, 0, v, 1));
         Stage.bounds("missed within", 0, 10_000, -2, Stage.at(0, 1111), (x, v) -> x.missed(3, 0, 3, v));
         Stage.asked("a beat ahead", 0, x -> x.missed(3, 0, 3, 8));
         Stage.asked("at that beat", 1, x -> x.missed(3, 0, 3, 9));

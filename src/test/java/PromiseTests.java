@@ -615,7 +615,9 @@ final class PromiseTests {
         Check.due("no roof", -2, x.misses(-1, 0, 1));
         x = Check.told(ALONE);
         Check.due("never", -1, x.misses(0, 0, 1));
-        Check.due("no time", 0, x.missed(0, 0, 1, 100));
+        Check.due("never, as misses() has it", -1, x.missed(0, 0, 1, 100));
+        Check.due("never, within no beats", -1, x.missed(0, 0, 1, 0));
+        Check.due("not yet", 0, x.missed(0, 0, 0, 4));
         x.set(0, 0, 0, 0);
         Check.due("not kept up", -1, x.misses(0, 1, 0));
         Check.due("not kept up", -1, x.missed(0, 1, 0, 5));
